@@ -48,6 +48,7 @@ public final class AuditsTest {
         Scene.refused("spoil(0, 0, 257)", Due.INVALID, Scene::village, x -> x.spoil(0, 0, 257));
         Scene.refused("spoil(0, 5, 1)", Due.INVALID, Scene::village, x -> x.spoil(0, 5, 1));
         Scene.refused("spoil(2, 0, 1)", Due.INVALID, Scene::village, x -> x.spoil(2, 0, 1));
+        Scene.refused("spoil(8, 0, 1)", Due.INVALID, Scene::village, x -> x.spoil(8, 0, 1));
         for (int wild : Due.WILD) {
             Scene.refused("spoil(wild, 0, 1)", Due.INVALID, Scene::village, x -> x.spoil(wild, 0, 1));
             Scene.refused("spoil(0, wild, 1)", Due.INVALID, Scene::village, x -> x.spoil(0, wild, 1));
@@ -113,6 +114,13 @@ public final class AuditsTest {
         Scene.file(y, 0, 0, 2);
         y.spoil(1, 0, 1);
         Due.is("a file of another owner is passed over", 0, y.audit(0, 1, 0));
+        // What an earlier audit saw is forgotten.
+        PeerStorage z = spoiled(1, 2, 3);
+        Due.is("audit of three", 0, z.audit(0, 1, 4));
+        z.delete(0);
+        z.delete(1);
+        z.spoil(2, 0, 254);
+        Due.is("audit of the one that is left", 1, z.audit(0, 1, 4));
     }
 
     private static void auditTrust() {
@@ -343,5 +351,12 @@ public final class AuditsTest {
             Due.is("undo", left, x.undo());
         }
         Due.same("five times undo", before, Scene.seen(x));
+        // Another file with the same number is made before the first one comes back.
+        PeerStorage y = Scene.village();
+        y.delete(0);
+        Scene.file(y, 2, 4, 200, 201);
+        y.undo();
+        y.undo();
+        Due.same("a file that comes back", before, Scene.seen(y));
     }
 }

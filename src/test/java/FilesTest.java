@@ -7,6 +7,7 @@ public final class FilesTest {
         storeLosesWhatHasNoPlace();
         storeRefused();
         storeNumbers();
+        storeForgetsEarlierWords();
         deleteFrees();
         fileInfoAnswers();
         fragmentAnswers();
@@ -140,6 +141,7 @@ public final class FilesTest {
         Due.is("store takes the lowest number", 2, Scene.file(x, 0, 0, 77));
         Due.is("store takes the next one", 5, Scene.file(x, 0, 0, 78));
         Due.is("read", 77, x.read(2, 0));
+        Due.is("fragments of a number without a file", Due.INVALID, freed().fragment(0, 0, 0));
         // A file made of fewer words than the one that had its number before.
         PeerStorage y = Scene.peers(9, 9, 9, 9);
         Scene.file(y, 0, 1, 1, 2, 3);
@@ -153,6 +155,22 @@ public final class FilesTest {
         Due.is("a number used again: no more fragments", Due.INVALID, y.fragment(0, 1, 0));
         Due.is("a number used again: stored", 1, y.count(3));
         Due.is("a number used again: spoiled", 0, y.count(4));
+    }
+
+    private static PeerStorage freed() {
+        PeerStorage x = Scene.village();
+        x.delete(0);
+        return x;
+    }
+
+    /** Words that waited and went into an earlier file are no part of a later, shorter one. */
+    private static void storeForgetsEarlierWords() {
+        PeerStorage x = Scene.peers(9, 9, 9, 9, 9, 9);
+        Scene.file(x, 0, 0, 200, 201, 202, 203);
+        Scene.file(x, 0, 2, 1, 2);
+        Due.is("the sum of two words", 3, x.fragment(1, 2, 1));
+        Due.is("their second sum", 5, x.fragment(1, 3, 1));
+        Due.is("no fragment beyond", Due.INVALID, x.fragment(1, 4, 1));
     }
 
     private static void deleteFrees() {
@@ -217,6 +235,7 @@ public final class FilesTest {
         Due.is("fragment(0, 5, 0)", Due.INVALID, x.fragment(0, 5, 0));
         Due.is("fragment(1, 2, 0)", Due.INVALID, x.fragment(1, 2, 0));
         Due.is("fragment(2, 0, 0)", Due.INVALID, x.fragment(2, 0, 0));
+        Due.is("fragment(8, 0, 0)", Due.INVALID, x.fragment(8, 0, 0));
         for (int wild : Due.WILD) {
             Due.is("fragment(wild, 0, 0)", Due.INVALID, x.fragment(wild, 0, 0));
             Due.is("fragment(0, wild, 0)", Due.INVALID, x.fragment(0, wild, 0));
@@ -246,6 +265,7 @@ public final class FilesTest {
         PeerStorage x = Scene.village();
         Due.is("read of a parity word", Due.INVALID, x.read(0, 2));
         Due.is("read(2, 0)", Due.INVALID, x.read(2, 0));
+        Due.is("read(8, 0)", Due.INVALID, x.read(8, 0));
         for (int peer : new int[] {0, 1, 2, 4}) {
             x.setOnline(peer, 0);
         }
@@ -294,7 +314,9 @@ public final class FilesTest {
         Due.is("decode from none", Due.INVALID, x.decode(0, 0, 0));
         Due.is("decode from a fragment beyond", Due.INVALID, x.decode(0, 32 + 2, 0));
         Due.is("decode from a negative set", Due.INVALID, x.decode(0, Integer.MIN_VALUE + 2, 0));
+        Due.is("decode from one just beyond", Due.INVALID, x.decode(1, 4, 0));
         Due.is("decode(2, 1, 0)", Due.INVALID, x.decode(2, 1, 0));
+        Due.is("decode(8, 1, 0)", Due.INVALID, x.decode(8, 1, 0));
         for (int wild : Due.WILD) {
             Due.is("decode(wild, 6, 0)", Due.INVALID, x.decode(wild, 6, 0));
             Due.is("decode(0, wild, 0)", Due.INVALID, x.decode(0, wild, 0));
