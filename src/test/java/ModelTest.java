@@ -1,4 +1,6 @@
+import java.lang.reflect.Method;
 import java.util.ArrayList;
+import java.util.Arrays;
 import java.util.List;
 import java.util.Random;
 
@@ -20,6 +22,9 @@ public final class ModelTest {
     private static final int[] MOST_SPACE = {4, 8, 40, 3, 12};
     private static final int[] MOST_PEERS = {11, 11, 6, 8, 12};
 
+    private static final Method[] OF_PROGRAM = methodsOf(PeerStorage.class);
+    private static final Method[] OF_MODEL = methodsOf(Model.class);
+
     private final Random random;
     private final int kind;
     private final PeerStorage program = new PeerStorage();
@@ -31,7 +36,7 @@ public final class ModelTest {
         kind = run % OFTEN.length;
     }
 
-    public static void main(String[] args) {
+    public static void main(String[] args) throws ReflectiveOperationException {
         int[][] answers = new int[NAMES.length][5];
         for (int run = 0; run < RUNS; run++) {
             if (!new ModelTest(run).agrees(run, answers)) {
@@ -42,14 +47,14 @@ public final class ModelTest {
         Due.end();
     }
 
-    private boolean agrees(int run, int[][] answers) {
+    private boolean agrees(int run, int[][] answers) throws ReflectiveOperationException {
         for (int call = 0; call < CALLS; call++) {
             int name = nextName();
             int a = argument(name, 0);
             int b = argument(name, 1);
             int c = argument(name, 2);
-            int want = askModel(name, a, b, c);
-            int got = askProgram(name, a, b, c);
+            int want = ask(model, OF_MODEL[name], a, b, c);
+            int got = ask(program, OF_PROGRAM[name], a, b, c);
             told.add(NAMES[name] + "(" + a + ", " + b + ", " + c + ") -> " + got);
             answers[name][want <= -10001 && want >= -10004 ? -10000 - want : 0]++;
             Due.is("run " + run + ", call " + call + ", " + NAMES[name], want, got);
@@ -133,63 +138,20 @@ public final class ModelTest {
         };
     }
 
-    private int askProgram(int name, int a, int b, int c) {
-        PeerStorage x = program;
-        return switch (NAMES[name]) {
-            case "join" -> x.join(a);
-            case "leave" -> x.leave(a);
-            case "crash" -> x.crash(a);
-            case "setOnline" -> x.setOnline(a, b);
-            case "pay" -> x.pay(a, b, c);
-            case "peerInfo" -> x.peerInfo(a, b);
-            case "balance" -> x.balance(a, b);
-            case "word" -> x.word(a);
-            case "store" -> x.store(a, b);
-            case "delete" -> x.delete(a);
-            case "fileInfo" -> x.fileInfo(a, b);
-            case "fragment" -> x.fragment(a, b, c);
-            case "read" -> x.read(a, b);
-            case "decode" -> x.decode(a, b, c);
-            case "spoil" -> x.spoil(a, b, c);
-            case "audit" -> x.audit(a, b, c);
-            case "passingSeeds" -> x.passingSeeds(a, b);
-            case "repair" -> x.repair(a);
-            case "repairAll" -> x.repairAll(a);
-            case "undo" -> x.undo();
-            case "tolerance" -> x.tolerance();
-            case "endangered" -> x.endangered(a);
-            case "leavers" -> x.leavers();
-            default -> x.count(a);
-        };
+    private static Method[] methodsOf(Class<?> type) {
+        Method[] methods = new Method[NAMES.length];
+        for (int name = 0; name < NAMES.length; name++) {
+            for (Method method : type.getDeclaredMethods()) {
+                if (method.getName().equals(NAMES[name])) {
+                    methods[name] = method;
+                }
+            }
+        }
+        return methods;
     }
 
-    private int askModel(int name, int a, int b, int c) {
-        Model x = model;
-        return switch (NAMES[name]) {
-            case "join" -> x.join(a);
-            case "leave" -> x.leave(a);
-            case "crash" -> x.crash(a);
-            case "setOnline" -> x.setOnline(a, b);
-            case "pay" -> x.pay(a, b, c);
-            case "peerInfo" -> x.peerInfo(a, b);
-            case "balance" -> x.balance(a, b);
-            case "word" -> x.word(a);
-            case "store" -> x.store(a, b);
-            case "delete" -> x.delete(a);
-            case "fileInfo" -> x.fileInfo(a, b);
-            case "fragment" -> x.fragment(a, b, c);
-            case "read" -> x.read(a, b);
-            case "decode" -> x.decode(a, b, c);
-            case "spoil" -> x.spoil(a, b, c);
-            case "audit" -> x.audit(a, b, c);
-            case "passingSeeds" -> x.passingSeeds(a, b);
-            case "repair" -> x.repair(a);
-            case "repairAll" -> x.repairAll(a);
-            case "undo" -> x.undo();
-            case "tolerance" -> x.tolerance();
-            case "endangered" -> x.endangered(a);
-            case "leavers" -> x.leavers();
-            default -> x.count(a);
-        };
+    /** Hands over as many of the arguments as the method takes. */
+    private static int ask(Object asked, Method method, Object... arguments) throws ReflectiveOperationException {
+        return (int) method.invoke(asked, Arrays.copyOf(arguments, method.getParameterCount()));
     }
 }
