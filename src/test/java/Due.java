@@ -9,24 +9,41 @@ final class Due {
 
     private static int checked = 0;
     private static int wrong = 0;
+    private static String sentence = "";
 
     private Due() {
+    }
+
+    /** Names the words before the promises that the next answers are due to; SentencesTest reads them. */
+    static void terms(String words) {
+        sentence = "Terms: \"" + words + "\"";
+    }
+
+    /** Names the words of a promise that the next answers are due to; SentencesTest reads them. */
+    static void promise(int number, String words) {
+        sentence = "Promise " + number + ": \"" + words + "\"";
     }
 
     static void is(String what, long want, long got) {
         checked++;
         if (want != got) {
-            wrong++;
-            System.out.println(what + " answered " + got + ", due is " + want);
+            tell(what + " answered " + got + ", due is " + want);
         }
     }
 
     static void same(String what, String want, String got) {
         checked++;
         if (!want.equals(got)) {
-            wrong++;
-            System.out.println(what + " gave\n  " + got + "\ndue is\n  " + want);
+            tell(what + " gave\n  " + got + "\ndue is\n  " + want);
         }
+    }
+
+    private static void tell(String fault) {
+        wrong++;
+        if (!sentence.isEmpty()) {
+            System.out.println(sentence);
+        }
+        System.out.println(fault);
     }
 
     /** Ends the test, with exit code 1 if an answer was wrong or none was looked at. */

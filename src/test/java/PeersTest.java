@@ -102,13 +102,7 @@ public final class PeersTest {
         Due.is("leave(2): still spoiled", 1, x.count(4));
         Due.is("leave(2): file 1 goes to its owner", 1, x.fragment(1, 1, 0));
         Due.is("leave(2): an owner owes nothing to itself", 0, x.peerInfo(1, 5));
-        Scene.changed("leave(2)", 0, () -> withRoom(), y -> y.leave(2));
-    }
-
-    private static PeerStorage withRoom() {
-        PeerStorage x = Scene.village();
-        x.join(9);
-        return x;
+        Scene.changed("leave(2)", 0, Scene::withRoom, y -> y.leave(2));
     }
 
     private static void leaveLoses() {

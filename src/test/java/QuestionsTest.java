@@ -128,14 +128,8 @@ public final class QuestionsTest {
         Due.is("then all may", 3, y.leavers());
     }
 
-    private static PeerStorage withRoom() {
-        PeerStorage x = Scene.village();
-        x.join(9);
-        return x;
-    }
-
     private static void leaversOneAfterTheOther() {
-        Scene.asked("leavers with room", 1, QuestionsTest::withRoom, PeerStorage::leavers);
+        Scene.asked("leavers with room", 1, Scene::withRoom, PeerStorage::leavers);
         // Fragments of the first leaver stand in the way of the next one.
         PeerStorage x = Scene.peers(1, 1, 1, 1, 2, 1);
         Scene.file(x, 0, 1, 1);
