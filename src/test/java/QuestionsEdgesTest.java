@@ -288,5 +288,11 @@ public final class QuestionsEdgesTest {
         Due.is("free space on both", 2, x.count(5));
         x.setOnline(1, 0);
         Due.is("free space on the one that is online", 1, x.count(5));
+        // Whichever number the debtor has.
+        for (int owner = 0; owner < 12; owner++) {
+            PeerStorage y = Scene.alike(12, 1);
+            Scene.file(y, owner, 4, 1, 2, 3, 4, 5, 6);
+            Due.is("debts of peer " + owner, owner < 10 ? 9 : 10, y.count(8));
+        }
     }
 }

@@ -25,6 +25,7 @@ public final class TermsEdgesTest {
         debtsForPlaces();
         debtsForRepairs();
         debtsOfThoseGone();
+        debtsOfEachNumber();
         Due.end();
     }
 
@@ -230,6 +231,15 @@ public final class TermsEdgesTest {
         valuesAre("sixth word 255", new int[] {0, 0, 0, 0, 0, 255}, 255, 245, 185, 82);
         valuesAre("six words 255", new int[] {255, 255, 255, 255, 255, 255}, 245, 215, 75, 146);
         valuesAre("six words 0", new int[] {0, 0, 0, 0, 0, 0}, 0, 0, 0, 0);
+        // The words of a longer file that was made before are no part of a shorter one.
+        for (int k = 1; k < 6; k++) {
+            PeerStorage x = Scene.alike(12, 2);
+            Scene.file(x, 0, 0, 255, 255, 255, 255, 255, 255);
+            Scene.file(x, 0, 4, new int[k]);
+            for (int i = 0; i < k + 4; i++) {
+                Due.is(k + " words 0 after six words 255: fragment " + i, 0, x.fragment(1, i, 1));
+            }
+        }
     }
 
     private static void fragmentsDetermine() {
@@ -631,6 +641,43 @@ public final class TermsEdgesTest {
             x.undo();
             x.undo();
             Due.is("undo brings its balances back", -1, x.balance(0, 2));
+        }
+    }
+
+    /** The peer owes to all others, for two files of ten fragments on twelve peers. */
+    private static void makeDebts(PeerStorage x, int owner) {
+        for (int time = 0; time < 2; time++) {
+            Scene.file(x, owner, 4, 1, 2, 3, 4, 5, 6);
+        }
+    }
+
+    private static void debtsOfEachNumber() {
+        for (int peer = 0; peer < 12; peer++) {
+            int owing = (peer + 5) % 12;
+            PeerStorage x = Scene.alike(12, 9);
+            makeDebts(x, peer);
+            makeDebts(x, owing);
+            int[] before = new int[12];
+            for (int other = 0; other < 12; other++) {
+                before[other] = x.balance(owing, other);
+                if (other != peer && other != owing) {
+                    Due.is("peer " + owing + " owes to " + other, 1, before[other] > 0 ? 1 : 0);
+                    Due.is("peer " + peer + " owes to " + other, 1, x.balance(peer, other) > 0 ? 1 : 0);
+                }
+            }
+            x.crash(peer);
+            Due.is("join", peer, x.join(9));
+            int sum = 0;
+            for (int other = 0; other < 12; other++) {
+                int none = other == peer ? Due.INVALID : 0;
+                Due.is("balance of " + peer + " with " + other, none, x.balance(peer, other));
+                Due.is("balance of " + other + " with " + peer, none, x.balance(other, peer));
+                if (other != peer && other != owing) {
+                    Due.is("balance of " + owing + " with " + other, before[other], x.balance(owing, other));
+                    sum += before[other];
+                }
+            }
+            Due.is("all balances without peer " + peer, sum, x.count(8));
         }
     }
 }
