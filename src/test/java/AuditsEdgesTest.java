@@ -118,6 +118,20 @@ public final class AuditsEdgesTest {
         Scene.file(y, 0, 0, 99);
         Due.is("the new one is on peer 1", 1, y.fragment(0, 0, 0));
         Due.is("seed 0, the spoiled one second", 1, y.audit(0, 1, 0));
+        // Numbers without a file, and files that have nothing on this peer, take no power of the seed.
+        PeerStorage gap = audited(255, 0, 0, 1);
+        gap.delete(1);
+        gap.delete(2);
+        Due.is("-2 + s with s = 2, two numbers between", 1, gap.audit(0, 1, 2));
+        gap.setOnline(1, 0);
+        Scene.file(gap, 0, 0, 7);
+        Scene.file(gap, 0, 0, 7);
+        gap.setOnline(1, 1);
+        Due.is("file 1 on the owner", 0, gap.fragment(1, 0, 0));
+        Due.is("file 2 without a place", Due.MISSING, gap.fragment(2, 0, 0));
+        Due.is("-2 + s with s = 2, two files between", 1, gap.audit(0, 1, 2));
+        gap.delete(1);
+        Due.is("-2 + s with s = 2, one file between", 1, gap.audit(0, 1, 2));
         // Neither fragments of other owners nor those on other peers are looked at.
         PeerStorage z = Scene.alike(3, 9);
         Scene.file(z, 0, 2, 1);
@@ -296,6 +310,12 @@ public final class AuditsEdgesTest {
             Due.is("one seed", 1, x.passingSeeds(0, 1));
             Due.is("trust stays", 50, x.peerInfo(1, 3));
         }
+        // It is no audit, so that neither of them need be online.
+        x.setOnline(1, 0);
+        Due.is("one seed, the peer being offline", 1, x.passingSeeds(0, 1));
+        x.setOnline(0, 0);
+        Due.is("one seed, both being offline", 1, x.passingSeeds(0, 1));
+        Due.is("nothing to audit, both being offline", 257, x.passingSeeds(1, 0));
     }
 
     private static PeerStorage twiceSpoiled() {

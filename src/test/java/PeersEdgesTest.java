@@ -161,6 +161,13 @@ public final class PeersEdgesTest {
         Scene.refused("leave of an owner of one", Due.IMPOSSIBLE, PeersEdgesTest::oneOfTwo, x -> x.leave(1));
         Scene.refused("leave when offline", Due.IMPOSSIBLE, Scene::village, x -> x.leave(3));
         Scene.refused("leave of an owner, offline", Due.IMPOSSIBLE, PeersEdgesTest::withoutPlace, x -> x.leave(0));
+        PeerStorage nothing = Scene.alike(1, 1);
+        Scene.file(nothing, 0, 0, 7);
+        nothing.spoil(0, 0, 1);
+        Due.is("leave of an owner of a file that is not safe", Due.IMPOSSIBLE, nothing.leave(0));
+        Scene.file(nothing, 0, 0, 8);
+        nothing.delete(0);
+        Due.is("leave of an owner of a file without a fragment", Due.IMPOSSIBLE, nothing.leave(0));
         PeerStorage x = oneOfTwo();
         x.delete(1);
         Due.is("leave after its last file is deleted", 0, x.leave(1));
@@ -200,6 +207,10 @@ public final class PeersEdgesTest {
         Due.is("nor a fragment", 0, y.count(3));
         Due.is("all space is free", 40, y.peerInfo(1, 1));
         Due.is("no debts", 0, y.count(8));
+        PeerStorage offline = withoutPlace();
+        Due.is("crash of the owner of eight, offline", 0, offline.crash(0));
+        Due.is("no file stays then", 0, offline.count(1));
+        Due.is("nor a fragment then", 0, offline.count(3));
         PeerStorage z = Scene.full();
         Due.is("crash of peer 11, which owns none", 6, z.crash(11));
         Due.is("stored then", 74, z.count(3));

@@ -227,6 +227,20 @@ public final class QuestionsEdgesTest {
         Due.is("leave(2) would lose none", 0, z.leave(2));
         z.undo();
         Due.is("2 leaves alone", 1, z.leavers());
+        // File 0 is on peer 1, file 3 on peers 3 and 2; peers 0 and 3 own files and have a unit each.
+        PeerStorage v = Scene.peers(3, 4, 1, 2);
+        Scene.file(v, 0, 0, 1);
+        v.setOnline(1, 0);
+        Scene.file(v, 0, 0, 2);
+        Scene.file(v, 3, 0, 3);
+        v.setOnline(0, 0);
+        Scene.file(v, 3, 1, 4);
+        v.setOnline(0, 1);
+        v.setOnline(1, 1);
+        Due.is("1 goes to the lower number 0, and 2 finds no place", 1, v.leavers());
+        v.spoil(2, 0, 1);
+        Due.is("audit of peer 0", 0, v.audit(3, 0, 0));
+        Due.is("1 goes to the greater trust on 3, and 2 to 0", 2, v.leavers());
         Due.promise(24, "Returns the number of peers.");
         Scene.asked("leavers of the village", 0, Scene::village, PeerStorage::leavers);
         Scene.asked("leavers with room", 1, Scene::withRoom, PeerStorage::leavers);

@@ -570,6 +570,11 @@ public final class TermsEdgesTest {
         x.spoil(0, 0, 1);
         x.repair(0);
         Due.is("repair on the owner: only fragment 1 that is read", 3, x.balance(0, 2));
+        PeerStorage spoiled = Scene.peers(1, 3, 2);
+        Scene.file(spoiled, 0, 0, 5);
+        spoiled.spoil(0, 0, 1);
+        spoiled.leave(1);
+        Due.is("leave: 1 for another, though it is spoiled", 1, spoiled.balance(0, 2));
         PeerStorage y = Scene.peers(1, 2, 2);
         Scene.file(y, 0, 0, 5);
         y.setOnline(2, 0);
