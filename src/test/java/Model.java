@@ -35,7 +35,8 @@ final class Model {
     private List<Integer> words = new ArrayList<>();
     private final Deque<Model> history = new ArrayDeque<>();
 
-    private Model copy() {
+    /** What is there, without the history. */
+    Model copy() {
         Model copy = new Model();
         copy.restore(this);
         return copy;

@@ -6,62 +6,29 @@ import java.nio.file.Path;
 import java.util.ArrayList;
 import java.util.Arrays;
 import java.util.List;
-import java.util.TreeSet;
 import java.util.regex.Matcher;
 import java.util.regex.Pattern;
 
-/** The document's face, and the rules of LANGUAGE.md that can be seen from outside. */
+/** The rules of LANGUAGE.md that can be seen from outside, or in the source. */
 public final class RulesTest {
-    private static final String FACE = "audit/3 balance/2 count/1 crash/1 decode/3 delete/1 endangered/1 "
-        + "fileInfo/2 fragment/3 join/1 leave/1 leavers/0 passingSeeds/2 pay/3 peerInfo/2 read/2 repair/1 "
-        + "repairAll/1 setOnline/2 spoil/3 store/2 tolerance/0 undo/0 word/1";
     private static final String[] FORBIDDEN = {
         "\\bthrow\\b", "\\bthrows\\b", "\\btry\\b", "\\bcatch\\b", "\\bsynchronized\\b", "\\bassert\\b",
         "->", "::", "\\bprotected\\b", "\\bpackage\\b", "static \\{", "\\w+Exact\\b", "\\bThread\\b"};
 
     public static void main(String[] args) throws Exception {
-        constants();
-        face();
         noOtherMembers();
         classesInside();
         source(Files.readString(Path.of("src/main/java/PeerStorage.java")));
         Due.end();
     }
 
-    private static void constants() {
-        Due.is("INVALID_ARGUMENT", -10001, PeerStorage.INVALID_ARGUMENT);
-        Due.is("NOT_POSSIBLE", -10002, PeerStorage.NOT_POSSIBLE);
-        Due.is("LIMIT_REACHED", -10003, PeerStorage.LIMIT_REACHED);
-        Due.is("NOT_FOUND", -10004, PeerStorage.NOT_FOUND);
-    }
-
-    private static void face() {
-        TreeSet<String> methods = new TreeSet<>();
-        for (Method method : PeerStorage.class.getDeclaredMethods()) {
-            if (Modifier.isPublic(method.getModifiers())) {
-                methods.add(method.getName() + "/" + method.getParameterCount());
-                Due.same(method.getName() + " returns", "int", method.getReturnType().getName());
-                Due.is(method.getName() + " is static", 0, Modifier.isStatic(method.getModifiers()) ? 1 : 0);
-            }
-        }
-        Due.same("public methods", FACE, String.join(" ", methods));
-        int modifiers = PeerStorage.class.getModifiers();
-        Due.is("public and final", 1, Modifier.isPublic(modifiers) && Modifier.isFinal(modifiers) ? 1 : 0);
-        Due.is("constructors", 1, PeerStorage.class.getConstructors().length);
-        Due.is("public fields", 4, PeerStorage.class.getFields().length);
-    }
-
     private static void noOtherMembers() {
-        TreeSet<String> publicNames = new TreeSet<>();
-        for (String method : FACE.split(" ")) {
-            publicNames.add(method.substring(0, method.indexOf('/')));
-        }
         for (Method method : PeerStorage.class.getDeclaredMethods()) {
             boolean open = Modifier.isPublic(method.getModifiers());
             boolean closed = Modifier.isPrivate(method.getModifiers());
             Due.is(method.getName() + " is public or private", 1, open || closed ? 1 : 0);
             Due.is(method.getName() + " bears a public name", 0,
-                !open && publicNames.contains(method.getName()) ? 1 : 0);
+                !open && Both.NAMES.contains(method.getName()) ? 1 : 0);
         }
         for (Field field : PeerStorage.class.getDeclaredFields()) {
             boolean known = Modifier.isPublic(field.getModifiers()) || Modifier.isPrivate(field.getModifiers());
@@ -74,6 +41,10 @@ public final class RulesTest {
         for (Class<?> inside : classes) {
             Due.is(inside.getName() + " is static", 1, Modifier.isStatic(inside.getModifiers()) ? 1 : 0);
             Due.is(inside.getName() + " is public", 0, Modifier.isPublic(inside.getModifiers()) ? 1 : 0);
+            for (Method method : inside.getDeclaredMethods()) {
+                Due.is(method.getName() + " bears a public name", 0, Both.NAMES.contains(method.getName()) ? 1 : 0);
+                Due.is(method.getName() + " takes at most seven", 1, method.getParameterCount() <= 7 ? 1 : 0);
+            }
         }
         classes.add(PeerStorage.class);
         Due.is("at most twelve classes", 1, classes.size() <= 12 ? 1 : 0);
