@@ -63,7 +63,7 @@ final class SomeArguments {
             return Due.WILD[random.nextInt(Due.WILD.length)];
         }
         return switch (name + at) {
-            case "join0" -> 1 + random.nextInt(mostSpace) - random.nextInt(20) / 19;
+            case "join0" -> random.nextInt(20) == 0 ? 39 + random.nextInt(3) : random.nextInt(mostSpace + 1);
             case "leave0", "crash0", "setOnline0", "pay0", "pay1", "peerInfo0", "balance0", "balance1",
                 "store0", "audit0", "audit1", "passingSeeds0", "passingSeeds1", "endangered0" ->
                 random.nextInt(mostPeers);
